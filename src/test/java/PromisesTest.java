@@ -244,11 +244,14 @@ public final class PromisesTest {
         due.is("nothing written", x.many(1), 0);
         due.is("tally", x.tally(), 0);
         due.is("check", x.check(), 0);
+        due.is("16 right behind", x.write(1, 2, 0, 2), 2);
+        due.is("-1 right ahead", x.write(1, 2, 4, 1), 3);
+        x.erase(3);
         Due.row(x, 2, 0, new int[24]);
         due.is("24", x.write(2, 0, 0, 24), 24);
         due.is("full, but 16", x.write(1, 2, 2, 1), FontRuns.OUTSIDE);
         due.is("full", x.write(1, 2, 4, 1), FontRuns.FULL);
-        due.is("tally", x.tally(), 24);
+        due.is("tally", x.tally(), 27);
     }
 
     private static void erase() {
@@ -472,6 +475,7 @@ public final class PromisesTest {
         due.is("25 less", x.day(2, 1, 6, 1, 1), FontRuns.OUTSIDE);
         due.is("font 4", x.day(2, 1, 8, 1, 1), FontRuns.OUTSIDE);
         due.is("24 less", x.day(2, 1, 10, 1, 1), 0);
+        due.is("a wrong pair right behind", x.day(2, 1, 0, 1, 2), 1);
         due.is("act 19", Due.dayOf(x, 1, 0, 19), FontRuns.OUTSIDE);
         due.is("-1 with 20", Due.dayOf(x, 1, -1, 20), FontRuns.OUTSIDE);
         due.is("-1 with 21", Due.dayOf(x, 1, -1, 21), FontRuns.OUTSIDE);
@@ -659,6 +663,9 @@ public final class PromisesTest {
         due.is("put", x.put(3, 59, 7), 1);
         due.is("anew", x.sheet(3, 2, 60), 1);
         due.is("is 0 again", x.cell(3, 59, 2), 0);
+        x.put(3, 0, 7);
+        x.sheet(3, 2, 60);
+        due.is("the first is 0 again", x.cell(3, 0, 2), 0);
         due.is("none", x.sheet(3, 1, 0), 1);
         due.is("no cell", x.cell(3, 0, 1), LOST);
         due.is("4, lane 3", x.sheet(4, 3, 61), FontRuns.UNKNOWN);
