@@ -375,7 +375,8 @@ public final class FontRuns {
         if (!isWithin(v, 0, MOST_READ)) {
             return OUTSIDE;
         }
-        return readings.add(setting, v) ? readings.count : FULL;
+        int number = readings.count;
+        return readings.add(setting, v) ? number : FULL;
     }
 
     public int back(int n) {

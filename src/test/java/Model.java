@@ -387,7 +387,7 @@ final class Model {
         if (!in(v, 0, 500)) return -2;
         if (readings.size() == 8) return -4;
         readings.add(new Reading(best(), v));
-        return readings.size();
+        return readings.size() - 1;
     }
 
     long back(int n) {

@@ -535,12 +535,15 @@ public final class PromisesTest {
         FontRuns x = Due.withWriting(Due.FOUR, Due.MIXED);
         due.is("-1", x.reading(-1), FontRuns.OUTSIDE);
         due.is("501", x.reading(501), FontRuns.OUTSIDE);
-        for (int n = 1; n <= 8; n++) {
+        for (int n = 0; n < 8; n++) {
             due.is("reading " + n, x.reading(n % 2 * 500), n);
+            due.is("many behind reading " + n, x.many(3), n + 1);
         }
         due.is("a ninth", x.reading(48), FontRuns.FULL);
         due.is("a ninth, 501", x.reading(501), FontRuns.OUTSIDE);
         due.is("many", x.many(3), 8);
+        x.fonts(0, 0, 0, 32);
+        due.is("the first one of new fonts", x.reading(0), 0);
         due.is("no fonts, 501", new FontRuns().reading(501), FontRuns.STATE);
     }
 
@@ -555,8 +558,10 @@ public final class PromisesTest {
         due.is("0", x.back(0), 3);
         due.is("2", x.back(2), 1);
         due.is("the first is left", x.kinds(3), 1);
-        due.is("the next one's number", x.reading(48), 2);
+        due.is("the next one's number", x.reading(48), 1);
         due.is("2", x.back(2), 0);
+        due.is("the first one's number again", x.reading(50), 0);
+        due.is("1", x.back(1), 0);
         due.is("1", x.back(1), FontRuns.OUTSIDE);
         due.is("all kinds again", x.kinds(3), 7);
     }
