@@ -18,6 +18,13 @@ final class Due {
         }
     }
 
+    void same(String what, String got, String want) {
+        if (!got.equals(want)) {
+            wrong++;
+            System.out.println(part + ": " + what + " does not hold:\n  " + got + "\n  " + want);
+        }
+    }
+
     void end() {
         System.out.println(wrong == 0 ? "all answers are as due" : wrong + " answers are not as due");
         if (wrong != 0) {
