@@ -2,7 +2,8 @@ import java.util.Random;
 
 /** Long runs of calls, drawn from fixed seeds, on the program and on the model. */
 public final class ModelTest {
-    private static final int RUNS = 1500, CALLS = 512;
+    /** No step begins behind so many calls: the longest, a text told, still ends within the 512 promised. */
+    private static final int RUNS = 1700, CALLS = 440;
     private static final int[] ODD = {Integer.MIN_VALUE, Integer.MAX_VALUE, -1, -2, 61, 100, 1000};
 
     private final Due due;

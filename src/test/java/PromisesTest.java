@@ -414,27 +414,31 @@ public final class PromisesTest {
 
     private static void day() {
         due.begin("14 day");
-        FontRuns x = Due.withWriting(Due.FOUR, Due.MIXED);
+        FontRuns x;
         int[] whats = {0, 1, 2, 3, 4, 10, 11, 12, 13};
         int[][] days = {{}, {0, 20}, {3, 21}, {2, 22}, {3, 22, 1, 22, 0, 20}, {11, 20, 15, 20, 6, 20}, {13, 21, 0, 21}};
         int[][] want = {{3, -9, 9, 1, 48, 0, 1, 2, 3}, {4, -9, 10, 1, 51, 0, 1, 2, 3}, {2, -9, 7, 0, 31, 0, 1, 2, 3},
             {3, -9, 9, 1, 48, 1, 2, 0, 3}, {4, -9, 10, 1, 52, 2, 0, 3, 1}, {3, -9, 11, 2, 66, 0, 1, 2, 3},
             {0, -9, 0, 0, 0, 0, 1, 2, 3}};
         for (int d = 0; d < days.length; d++) {
+            x = Due.withWriting(Due.FOUR, Due.MIXED);
             for (int w = 0; w < whats.length; w++) {
                 due.is("day " + d + " what " + whats[w], Due.dayOf(x, whats[w], days[d]), want[d][w]);
             }
         }
         for (int what : whats) {
+            x = Due.withWriting(Due.FOUR, Due.MIXED);
             due.is("14 less", Due.dayOf(x, what, 14, 21), what == 1 ? 0 : -100);
             due.is("13 less, one more, 2 less", Due.dayOf(x, what, 13, 21, 1, 20, 2, 21, 9, 21), what == 1 ? 2 : -102);
         }
+        x = Due.withWriting(Due.FOUR, Due.MIXED);
         int[] more = new int[24];
         for (int k = 0; k < 12; k++) {
             more[2 * k + 1] = 20;
         }
         due.is("25th letter", Due.dayOf(x, 1, more), 11);
         due.is("25th letter", Due.dayOf(x, 2, more), -111);
+        Due.dayOf(x, 0, 2, 21, 5, 20, 3, 22);
         due.is("tally stays", x.tally(), 13);
         due.is("letters stay", x.many(1), 13);
         due.is("preference stays", x.ofFont(0, 4), 0);
