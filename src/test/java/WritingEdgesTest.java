@@ -177,6 +177,13 @@ public final class WritingEdgesTest {
         edges.faults("INDEX, FULL", x -> x.write(1, 2, 0, 14), Edges.INDEX);
         edges.still("OUTSIDE cell, FULL", x -> x.write(0, 0, 0, 24), Edges.OUTSIDE);
         edges.still("FULL", x -> x.write(1, 2, 0, 12), Edges.FULL);
+        edges.ofFaulting("5 the first that is told, of a full WRITING", Edges::full);
+        edges.still("UNKNOWN, FULL", x -> x.write(4, 2, 0, 1), Edges.UNKNOWN);
+        edges.still("OUTSIDE lane, FULL", x -> x.write(1, 3, 0, 1), Edges.OUTSIDE);
+        edges.still("OUTSIDE n, FULL", x -> x.write(1, 2, 0, 25), Edges.OUTSIDE);
+        edges.faults("NULL, FULL", x -> x.write(3, 2, 0, 1), Edges.NULL);
+        edges.faults("CAST, FULL", x -> x.write(1, 1, 0, 1), Edges.CAST);
+        edges.faults("INDEX, FULL", x -> x.write(1, 2, 24, 1), Edges.INDEX);
     }
 
     private static void writeWithoutFonts() {
